@@ -35,6 +35,15 @@ public final class LookTest {
         x.store(0, 12);
         Check.settle(x);
         CHECK.takes("a WRITE when none waited", x, 0, 0, 1, 2, 0, 0);
+        x.store(0, 13);
+        x.store(0, 14);
+        Check.settle(x);
+        CHECK.takes("the first of two", x, 0, 0, 1, 3, 0, 0);
+        x.store(0, 15);
+        Check.settle(x);
+        CHECK.takes("the second of two", x, 0, 0, 1, 4, 0, 0);
+        CHECK.takes("one told behind it", x, 0, 0, 1, 5, 0, 0);
+        CHECK.is("nothing waits", x.take(0), RemoteCells.NONE);
     }
 
     private static void takenOfTheLast() {

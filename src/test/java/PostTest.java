@@ -11,6 +11,7 @@ public final class PostTest {
         notReady();
         fullOfWorks();
         fullOfFetches();
+        fetchesGoOn();
         numbersGoOn();
         receives();
         opens();
@@ -102,6 +103,17 @@ public final class PostTest {
                 }
                 CHECK.is("a SEND yet", x.send(0, 1), 3);
             }
+        }
+    }
+
+    /** Those that were told do not count any more. */
+    private static void fetchesGoOn() {
+        RemoteCells x = Check.told("join 0;key 1 0 0 12 7");
+        for (int round = 0; round < 10; round++) {
+            CHECK.is("first", fetch(x, 2 + round % 3), 2 * round);
+            CHECK.is("second", fetch(x, 2 + round / 3 % 3), 2 * round + 1);
+            CHECK.is("third", fetch(x, 2), RemoteCells.FULL);
+            Check.settle(x);
         }
     }
 

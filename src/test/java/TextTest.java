@@ -15,6 +15,8 @@ public final class TextTest {
         tellsDelaysAndAims();
         tellsJoins();
         tellsAll();
+        tellsAllOfReadyEnds();
+        tellsAllOfWhatWaits();
         tellsInOrder();
         CHECK.finish();
     }
@@ -109,6 +111,18 @@ public final class TextTest {
         faultOf("join /", 5);
         faultOf("join :", 5);
         faultOf("send 0 1", 0);
+        faultOf("bll", 0);
+        faultOf("ley 0 0 0 1 0", 0);
+        faultOf("bell 0 0 0", 0);
+        faultOf("relay 0 1", 0);
+        faultOf("rim 0 0 0", 0);
+        faultOf("coin 0", 0);
+        faultOf("joinz 0", 0);
+        faultOf("joina 0", 0);
+        faultOf("zjoin 0", 0);
+        faultOf("all;0", 4);
+        faultOf("all;;0", 4);
+        faultOf("all ;9 all", 5);
         faultOf("all; key x", 9);
         faultOf("write", 0);
     }
@@ -276,6 +290,56 @@ public final class TextTest {
         CHECK.is("join behind all", x.join(0), 2);
         CHECK.is("send behind all", x.send(0, 1), 0);
         CHECK.is("due behind all", x.packet(3), 1);
+    }
+
+    private static void tellsAllOfReadyEnds() {
+        RemoteCells x = Check.told("join 0");
+        x.receive(0, 1);
+        x.receive(1, 2);
+        x.tear(1);
+        x.join(0);
+        x.send(0, 3);
+        Check.settle(x);
+        x.tick(0);
+        x.read(0, 4);
+        CHECK.is("OPEN", x.end(0, 2), 2);
+        CHECK.is("RECEIVES", x.end(0, 4), 1);
+        CHECK.is("TRIES", x.end(0, 5), 1);
+        Check.write(x, "all;join 0");
+        CHECK.is("tell", x.tell(), 2);
+        CHECK.is("nothing is told of it", x.count(2), 0);
+        CHECK.is("no packets", x.count(0), 0);
+        for (int end = 0; end < 2; end++) {
+            CHECK.is("READY anew", x.end(end, 0), 1);
+            for (int what = 1; what <= 10; what++) {
+                CHECK.is("end(" + end + ", " + what + ") anew", x.end(end, what), 0);
+            }
+        }
+        RemoteCells y = Check.told("join 0");
+        y.send(0, 3);
+        Check.settle(y);
+        y.tick(0);
+        CHECK.is("BUSIES", y.end(0, 6), 1);
+        Check.write(y, "all");
+        y.tell();
+        CHECK.is("APART", y.end(0, 0), 0);
+        CHECK.is("no BUSIES", y.end(0, 6), 0);
+        CHECK.is("no TRIES", y.end(0, 5), 0);
+    }
+
+    private static void tellsAllOfWhatWaits() {
+        RemoteCells x = Check.told("join 0");
+        x.send(0, 3);
+        x.send(0, 4);
+        x.tear(0);
+        Check.write(x, "all;join 1");
+        x.tell();
+        CHECK.is("nothing waits", x.count(2), 0);
+        x.store(2, 3);
+        x.tear(2);
+        CHECK.is("one waits", x.count(2), 1);
+        CHECK.takes("the new one", x, 0, 2, 1, 0, 2, 0);
+        CHECK.is("no more", x.take(0), RemoteCells.NONE);
     }
 
     private static void tellsInOrder() {

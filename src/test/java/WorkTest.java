@@ -283,6 +283,28 @@ public final class WorkTest {
         CHECK.is("home", x.cell(0, 1), 9990);
         CHECK.is("home", x.cell(0, 2), 5);
         forgottenChange();
+        lastTwoChanges();
+    }
+
+    private static void lastTwoChanges() {
+        RemoteCells x = Check.told(OPEN_ALL + ";cell 1 0 10");
+        x.add(0, 1, 1);
+        Check.settle(x);
+        x.swap(0, 11, 30, 1);
+        x.add(0, 5, 2);
+        Check.steps(x, 2);
+        x.step(1);
+        x.step(1);
+        CHECK.is("all three are done", x.cell(1, 0), 35);
+        x.tick(0);
+        Check.steps(x, 2);
+        CHECK.first("of the second", x, 0, 1, 1, 11);
+        x.step(0);
+        CHECK.first("of the third", x, 0, 1, 2, 30);
+        x.step(0);
+        CHECK.is("home", x.cell(0, 1), 11);
+        CHECK.is("home", x.cell(0, 2), 30);
+        CHECK.is("done once each", x.count(6), 3);
     }
 
     /** Only the last two are known: an older one that comes late is not answered. */
