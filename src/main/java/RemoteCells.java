@@ -65,8 +65,9 @@ public final class RemoteCells {
         int clauses = text.clauses;
         text.rewind();
         for (int i = 0; i < clauses; i++) {
-            text.readClause();
-            doClause(text.word, text.numbers);
+            if (text.readClause()) {
+                doClause(text.word, text.numbers);
+            }
             text.nextToken();
         }
         text.length = 0;

@@ -171,49 +171,12 @@ public final class ModelTest {
             return;
         }
         int want = model.call(name, a);
-        int got = real(name, a);
-        StringBuilder told = new StringBuilder(name).append('(');
-        for (int i = 0; i < a.length; i++) {
-            told.append(i > 0 ? ", " : "").append(a[i]);
-        }
-        told.append(") answered ").append(got);
+        int got = Calls.call(real, name, a);
+        String told = Calls.written(name, a) + " answered " + got;
         if (got != want) {
             right = false;
-            told.append(", due is ").append(want);
+            told += ", due is " + want;
         }
-        calls.add(told.toString());
-    }
-
-    private int real(String name, int[] a) {
-        return switch (name) {
-            case "write" -> real.write(a[0]);
-            case "erase" -> real.erase();
-            case "fault" -> real.fault();
-            case "tell" -> real.tell();
-            case "cell" -> real.cell(a[0], a[1]);
-            case "put" -> real.put(a[0], a[1], a[2]);
-            case "key" -> real.key(a[0], a[1], a[2], a[3], a[4]);
-            case "lock" -> real.lock(a[0], a[1]);
-            case "door" -> real.door(a[0], a[1], a[2]);
-            case "join" -> real.join(a[0]);
-            case "tear" -> real.tear(a[0]);
-            case "delay" -> real.delay(a[0], a[1]);
-            case "aim" -> real.aim(a[0], a[1], a[2]);
-            case "send" -> real.send(a[0], a[1]);
-            case "store" -> real.store(a[0], a[1]);
-            case "read" -> real.read(a[0], a[1]);
-            case "add" -> real.add(a[0], a[1], a[2]);
-            case "swap" -> real.swap(a[0], a[1], a[2], a[3]);
-            case "receive" -> real.receive(a[0], a[1]);
-            case "step" -> real.step(a[0]);
-            case "tick" -> real.tick(a[0]);
-            case "take" -> real.take(a[0]);
-            case "taken" -> real.taken(a[0]);
-            case "end" -> real.end(a[0], a[1]);
-            case "open" -> real.open(a[0], a[1], a[2]);
-            case "packet" -> real.packet(a[0]);
-            case "count" -> real.count(a[0]);
-            default -> throw new IllegalArgumentException(name);
-        };
+        calls.add(told);
     }
 }
