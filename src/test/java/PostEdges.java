@@ -104,7 +104,8 @@ final class PostEdges {
 
     private static void fullOfWorks(Script s) {
         String[] fills = {
-            "4 * send 0 1", "4 * store 0 1", "send 0 1\nread 0 1\nstore 0 1\nadd 0 1 1", "2 * swap 0 1 1 1\n2 * send 0 1"};
+            "4 * send 0 1", "4 * store 0 1", "send 0 1\nread 0 1\nstore 0 1\nadd 0 1 1",
+            "2 * swap 0 1 1 1\n2 * send 0 1"};
         for (int kind = 0; kind < DONE.length; kind++) {
             for (String fill : fills) {
                 s.edge(FIRST + kind, "FULL: 4 are OPEN", "join 0", fill, DONE[kind] + " = FULL", "end 0 1 = 4",

@@ -224,7 +224,7 @@ final class Script {
             String what = title + ": call " + (i + 1) + ", " + call.written();
             int answer = Calls.call(x, call.name, call.args);
             if (call.due == null) {
-                check.isTrue(what + " is done, but answered " + answer, !isRefusal(answer));
+                check.isTrue(what + " is done (it answered " + answer + ")", !isRefusal(answer));
             } else {
                 check.is(what, answer, call.due);
             }
@@ -243,10 +243,9 @@ final class Script {
         Calls.call(with.x, still.name, still.args);
         with.trace();
         without.trace();
-        int same = Arrays.mismatch(numbersOf(with.answers), numbersOf(without.answers));
-        boolean longer = same == Math.min(with.answers.size(), without.answers.size());
-        check.isTrue(what + " changed what " + (same < 0 || longer ? "" : with.asked.get(same)) + " answers",
-                same < 0 || longer);
+        int other = Arrays.mismatch(numbersOf(with.answers), numbersOf(without.answers));
+        String asked = other < 0 ? "all" : with.asked.get(Math.min(other, with.asked.size() - 1));
+        check.isTrue(what + " changes nothing: " + asked, other < 0);
     }
 
     private static int[] numbersOf(List<Integer> list) {
